@@ -606,7 +606,6 @@ public final class CobolDebugger {
             rows = Math.min(rows + 1, MOST);
             numbers[newest] = number;
             itemsOf[newest] = item;
-            lefts[newest] = 0;
             if (items.has(item)) {
                 System.arraycopy(items.bytes, item * Items.PLACES, bytes, newest * Items.PLACES, Items.PLACES);
             }

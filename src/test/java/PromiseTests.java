@@ -257,15 +257,15 @@ public final class PromiseTests {
         hidden.step(1, -1, 0);
         dueText("performs: the newest one's end is here", walk(hidden, 2), "3 2");
 
-        CobolDebugger over = program(0, 1, 2);
-        over.step(2, performing(2), 0);
+        CobolDebugger over = program(0, 1);
         over.step(1, performing(1), 0);
-        over.run(2);
-        over.step(3, performing(1), 0);
+        over.step(2, performing(1), 0);
+        over.run(1);
+        over.statement(1, 30);
         over.run(1);
         over.step(2, -1, 0);
-        dueText("performs: only the newest one's end counts", walk(over, 1), "2");
-        due("performs: three were closed", over.told(6), 0);
+        dueText("performs: an older one's end does not count", walk(over, 2), "3 2");
+        due("performs: both are closed", over.told(6), 0);
 
         CobolDebugger deep = program(0);
         deep.step(1, performing(0), 0);
@@ -380,7 +380,7 @@ public final class PromiseTests {
 
         CobolDebugger bad = program(0, 0);
         bad.item(0, 2);
-        bad.stop(3, 0, -100);
+        bad.stop(3, 0, MIN);
         bad.poke(0, 0, (byte) 0);
         due("5: not when it is bad", bad.run(9), 0);
 
@@ -565,17 +565,6 @@ public final class PromiseTests {
     }
 
     private static void keptRows() {
-        CobolDebugger x = program(0, 1, 1, 1);
-        x.item(1, 4);
-        x.step(2, performing(0), 0);
-        x.step(1, 0, 1);
-        x.step(4, performing(1), 0);
-        for (int i = 0; i < 7; i++) {
-            x.run(60);
-        }
-        due("9: at most 300 are kept", x.told(4), Math.min(300, x.count(0) + x.count(1)));
-        due("9: one more aren't", x.back(301), -4);
-
         CobolDebugger y = program(0, 1, 1);
         y.item(0, 9);
         y.step(2, 0, 1);
