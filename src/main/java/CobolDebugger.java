@@ -445,8 +445,9 @@ public final class CobolDebugger {
         }
 
         private boolean replaceByte(int item, int i, byte b) {
-            boolean changed = byteAt(item, i) != b;
-            setByte(item, i, b);
+            int place = item * PLACES + i;
+            boolean changed = bytes[place] != b;
+            bytes[place] = b;
             return changed;
         }
     }

@@ -1,74 +1,5 @@
 /** For each promise of the document: ordinary inputs, the edges that it names, and wrong inputs. */
-public final class PromiseTests {
-    private static final int MIN = Integer.MIN_VALUE;
-    private static final int MAX = Integer.MAX_VALUE;
-
-    private static int wrong = 0;
-
-    private static void due(String what, long got, long want) {
-        if (got != want) {
-            wrong++;
-            System.out.println(what + ": answered " + got + ", due is " + want);
-        }
-    }
-
-    private static void dueText(String what, String got, String want) {
-        if (!got.equals(want)) {
-            wrong++;
-            System.out.println(what + ": answered " + got + ", due is " + want);
-        }
-    }
-
-    /** The item's value, or the name of what show throws. */
-    private static String shown(CobolDebugger x, int item) {
-        try {
-            return Long.toString(x.show(item));
-        } catch (RuntimeException e) {
-            return e.getClass().getSimpleName();
-        }
-    }
-
-    /** The item's byte, or the name of what octet throws; the machine's own throw is told from the written one. */
-    private static String byteOf(CobolDebugger x, int item, int i) {
-        try {
-            return Byte.toString(x.octet(item, i));
-        } catch (RuntimeException e) {
-            boolean byMachine = e.getMessage() != null && e.getMessage().contains("out of bounds for length");
-            return byMachine ? "thrown by the machine" : e.getClass().getSimpleName();
-        }
-    }
-
-    private static String bytesOf(CobolDebugger x, int item, int size) {
-        StringBuilder all = new StringBuilder();
-        for (int i = 0; i < size; i++) {
-            all.append(i == 0 ? "" : " ").append(byteOf(x, item, i));
-        }
-        return all.toString();
-    }
-
-    /** Statements in these paragraphs, on lines 10, 20, .. */
-    private static CobolDebugger program(int... paragraphs) {
-        CobolDebugger x = new CobolDebugger();
-        for (int i = 0; i < paragraphs.length; i++) {
-            x.statement(paragraphs[i], 10 * (i + 1));
-        }
-        return x;
-    }
-
-    private static int performing(int paragraph) {
-        return -2 - paragraph;
-    }
-
-    /** Runs one by one, telling where the program stands behind each. */
-    private static String walk(CobolDebugger x, int most) {
-        StringBuilder way = new StringBuilder();
-        for (int i = 0; i < most && x.told(3) != 0; i++) {
-            x.run(1);
-            way.append(i == 0 ? "" : " ").append(x.told(3));
-        }
-        return way.toString();
-    }
-
+public final class PromiseTests extends Checks {
     public static void main(String[] args) {
         newObject();
         statement();
@@ -92,10 +23,7 @@ public final class PromiseTests {
         octet();
         poke();
         told();
-        System.out.println(wrong == 0 ? "all promises hold" : wrong + " answers are not as due");
-        if (wrong != 0) {
-            System.exit(1);
-        }
+        end();
     }
 
     private static void newObject() {
