@@ -367,10 +367,6 @@ public final class CobolDebugger {
             return b >= ZERO && b < ZERO + 10;
         }
 
-        private boolean isNegative(int item) {
-            return isDigit(byteAt(item, sizes[item] - 1) - SIGN);
-        }
-
         private boolean isBad(int item) {
             if (usages[item] == BINARY) {
                 return false;
@@ -381,7 +377,8 @@ public final class CobolDebugger {
                     return true;
                 }
             }
-            return !isDigit(byteAt(item, end)) && !isNegative(item);
+            int last = byteAt(item, end);
+            return !isDigit(last) && !isDigit(last - SIGN);
         }
 
         /** What an item says that is not bad. */
@@ -402,7 +399,9 @@ public final class CobolDebugger {
             for (int i = 0; i < sizes[item]; i++) {
                 value = value * 10 + byteAt(item, i) - ZERO;
             }
-            return isNegative(item) ? -(value - SIGN) : value;
+            // A last byte that is not bad is a digit, or a digit with the sign.
+            boolean negative = byteAt(item, sizes[item] - 1) >= ZERO + SIGN;
+            return negative ? SIGN - value : value;
         }
 
         /** Answers whether a byte became another. */

@@ -2,6 +2,7 @@
 public final class PromiseTests extends Checks {
     public static void main(String[] args) {
         newObject();
+        objectsSideBySide();
         statement();
         item();
         step();
@@ -23,6 +24,7 @@ public final class PromiseTests extends Checks {
         octet();
         poke();
         told();
+        exampleOfTheReadme();
         end();
     }
 
@@ -32,6 +34,32 @@ public final class PromiseTests extends Checks {
             due("1: told(" + what + ") of a new object", x.told(what), 0);
         }
         due("1: NONE", CobolDebugger.NONE, -1);
+    }
+
+    private static void objectsSideBySide() {
+        CobolDebugger x = program(0, 1, 0);
+        CobolDebugger y = new CobolDebugger();
+        x.item(0, 3);
+        x.stop(4, 1, 2);
+        x.step(1, 0, -5);
+        x.step(2, performing(7), 0);
+        x.step(3, performing(1), 0);
+        x.run(3);
+        for (int what = 0; what <= 6; what++) {
+            due("1: told(" + what + ") beside another object", y.told(what), 0);
+        }
+        due("1: count beside another object", y.count(0), 0);
+        due("1: caught beside another object", y.caught(1, 2), 0);
+        y.statement(3, 9);
+        y.item(1, 1);
+        y.change(0, 9);
+        y.run(1);
+        dueText("1: the other object's item", bytesOf(x, 0, 3), "48 48 117");
+        due("1: the other object's paragraph", x.count(3), 0);
+        due("1: the other object goes back by its own rows", x.back(3), 1);
+        dueText("1: to its own bytes", bytesOf(x, 0, 3), "48 48 48");
+        due("1: this one keeps its row", y.told(4), 1);
+        dueText("1: and its bytes", bytesOf(y, 0, 1), "9");
     }
 
     private static void statement() {
@@ -639,5 +667,25 @@ public final class PromiseTests extends Checks {
         due("16: -1", x.told(-1), -1);
         due("16: the least", x.told(MIN), -1);
         due("16: the most", x.told(MAX), -1);
+    }
+
+    /** What README.md says that its example answers. */
+    private static void exampleOfTheReadme() {
+        CobolDebugger x = new CobolDebugger();
+        int total = x.item(0, 4);
+        int first = x.statement(0, 10);
+        int second = x.statement(0, 20);
+        int third = x.statement(1, 30);
+        x.step(first, -2 - 1, 0);
+        x.step(third, total, 25);
+        int stop = x.stop(2, total, 0);
+        due("README: run", x.run(200), stop);
+        dueText("README: show", shown(x, total), "25");
+        dueText("README: octet", byteOf(x, total, 3), "53");
+        due("README: told", x.told(3), second);
+        due("README: count", x.count(1), 1);
+        due("README: back", x.back(1), third);
+        dueText("README: show behind back", shown(x, total), "0");
+        due("README: performed", x.performed(0), first);
     }
 }
